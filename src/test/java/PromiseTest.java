@@ -17,6 +17,7 @@ public final class PromiseTest {
         promise6Clear();
         promise7ReadItems();
         promise7ReadFaults();
+        promise7ReadToTheEnd();
         promise7ReadTakesThePlace();
         promise8Feed();
         promise9WatchByKinds();
@@ -40,6 +41,7 @@ public final class PromiseTest {
         promise26Voyages();
         promise27Part();
         promise28And29Images();
+        promise28And29ImagesHaveTheirOwn();
         promise30Status();
         promise31Count();
         promise32Digest();
@@ -281,6 +283,13 @@ public final class PromiseTest {
         faultAt("ship;\trock 1;", 5);
         faultAt("ship;{", 5);
         faultAt("ship;`", 5);
+        faultAt("ship;rockz 1;", 5);
+        faultAt("ship;arock 1;", 5);
+        faultAt("chip;", 0);
+        faultAt("ship;dock 1;", 5);
+        faultAt("ship;beef 1;", 5);
+        faultAt("ship;band 0 0 0;", 5);
+        faultAt("ship;mean 0 0 0;", 5);
         faultAt("ship;rock", 9);
         faultAt("ship;rock;", 9);
         faultAt("ship;rock 5", 11);
@@ -311,6 +320,25 @@ public final class PromiseTest {
         faultAt("ship;rock 1;rock 2;rock 3;reef 1;reef 2;reef 3;rock", 47);
         faultAt("ship;rock 1;rock 2;rock 3;reef 1;reef 2;reef 3; reef 99;", 48);
         faultAt("ship;hand 0 0 0;hand 0 0 0;hand 0 0 0;lean 0 0 0;lean 0 0 0;lean 0 0 0;lean 9", 71);
+    }
+
+    /** Bytes of an earlier text, and the end of the room for it, are nothing to the reading. */
+    private static void promise7ReadToTheEnd() {
+        SleepyHelm x = new SleepyHelm();
+        type(x, "shipx");
+        type(x, "ship");
+        due("read() of ship", x.read(), -14);
+        type(x, "ship;rock 55;");
+        type(x, "ship;rock 5");
+        due("read() of ship;rock 5", x.read(), -21);
+        type(x, "ship;" + " ".repeat(140) + ";");
+        type(x, "ship;" + " ".repeat(140));
+        due("read() of ship; and blanks", x.read(), 1);
+        faultAt("ship;" + " ".repeat(141) + "rock", 150);
+        faultAt("ship;" + " ".repeat(139) + "rock 5", 150);
+        faultAt("a".repeat(150), 0);
+        faultAt("7".repeat(150), 0);
+        faultAt(" ".repeat(150), 150);
     }
 
     private static void promise7ReadTakesThePlace() {
@@ -499,6 +527,14 @@ public final class PromiseTest {
             x.watch();
         }
         due("count(2)", x.count(2), 24);
+        SleepyHelm cold = new SleepyHelm();
+        cold.hand(PLAIN, 40, 0);
+        cold.hand(COLD, 5, 0);
+        int[] sleepy = {2, 6, 7, 8, 6, 10};
+        for (int w = 0; w < sleepy.length; w++) {
+            due("cold in watch " + w, cold.of(1, 4), sleepy[w]);
+            cold.watch();
+        }
         int tired = x.of(1, 1);
         due("cold and moonstruck in watch 24", x.of(1, 4), Math.max(0, tired - 3) + 5);
     }
@@ -648,6 +684,10 @@ public final class PromiseTest {
         x.hand(COOK, 15, 2);
         x.hand(COOK, 15, 2);
         due("peas(2, 1, 0): then rising", x.peas(2, 1, 0), 1);
+        SleepyHelm first = new SleepyHelm();
+        first.hand(COOK, 15, 2);
+        first.hand(PLAIN, 20, 0);
+        due("peas(2, 1, 0): the first of the crew may be fed, too", first.peas(2, 1, 0), 0);
         due("peas(2, 3, -1)", x.peas(2, 3, -1), 0);
         due("peas(60, 4, -1)", x.peas(60, 4, -1), NONE);
         due("peas(-60, 4, -1)", x.peas(-60, 4, -1), NONE);
@@ -679,6 +719,9 @@ public final class PromiseTest {
         like.hand(PLAIN, 5, 0);
         due("canNot(1): of like ones the first", like.canNot(1) & 1, 1);
         due("canNot(0)", like.canNot(0) & 1, 0);
+        SleepyHelm awake = new SleepyHelm();
+        awake.hand(PLAIN, 0, 0);
+        due("canNot(0): sleepy in every second watch", awake.canNot(0), 1 + 4 + 16 + 64);
     }
 
     private static void promise17Eat() {
@@ -845,6 +888,21 @@ public final class PromiseTest {
         x.hand(PLAIN, 40, 1);
         x.hand(COLD, 0, 1);
         due("look(1) is behind the watch in which he first steers", x.look(1), 10);
+        // Three plain ones together are 2 less each watch, the fourth is one more.
+        x.ship();
+        x.hand(PLAIN, 30, 1);
+        x.hand(PLAIN, 29, 1);
+        x.hand(PLAIN, 28, 1);
+        x.hand(PLAIN, 0, 1);
+        due("he steers in watch 19", x.then(19, 1), 3);
+        due("look(3): the last watch that may be looked at", x.look(3), 20);
+        x.ship();
+        for (int h = 0; h < 4; h++) {
+            x.hand(PLAIN, 20, 1);
+        }
+        x.hand(PLAIN, 0, 1);
+        due("he steers in watch 20", x.then(20, 1), 4);
+        due("look(4): too late to be looked at", x.look(4), 0);
     }
 
     /** No crew: she lies at 0, so that what is seen is the pull alone. */
@@ -968,6 +1026,9 @@ public final class PromiseTest {
         fractionIs("a boy never", asleep, 0, 1);
         asleep.odds(1, 5);
         fractionIs("one who is not sleepy never", asleep, 0, 1);
+        asleep.watch();
+        asleep.odds(1, 5);
+        fractionIs("one who is sleepy by 1 always", asleep, 1, 1);
     }
 
     /** From 1: X is 1103527590, X by 65536 is 16838, by 7 left over 3; from 0: 12345, 0, 0. */
@@ -996,6 +1057,15 @@ public final class PromiseTest {
         }
         statusIs("voyages", x, 12, 0, 0);
         due("voyages(7, 60) of no crew", new SleepyHelm().voyages(7, 60), 0);
+        // From 1 on: 1103527590, 377401575: by 7 left over 3, then 4. From 0 on: 12345, 1406932606: 0, then 6.
+        SleepyHelm cooks = new SleepyHelm();
+        for (int h = 0; h < 6; h++) {
+            cooks.hand(COOK, 10, h - 3);
+        }
+        due("voyages(1, 1): 3 steers", cooks.voyages(1, 1), 0);
+        due("voyages(1, 2): 3, then 4", cooks.voyages(1, 2), 1);
+        due("voyages(0, 1): 0 steers", cooks.voyages(0, 1), -3);
+        due("voyages(0, 2): 0, then nobody is fed, and 1 steers", cooks.voyages(0, 2), -5);
     }
 
     private static void promise27Part() {
@@ -1058,6 +1128,35 @@ public final class PromiseTest {
             due("from(" + far + ")", x.from(far), BAD);
         }
         statusIs("from(1) leaves the status", x, 12, 3, 0);
+    }
+
+    /** What comes behind an image writes over the same rows: the image has its own. */
+    private static void promise28And29ImagesHaveTheirOwn() {
+        SleepyHelm x = two();
+        x.rock(9);
+        x.seen(3, 3);
+        x.feed(0);
+        x.watch();
+        x.feed(1);
+        x.image(0);
+        long kept = x.digest();
+        x.ship();
+        x.hand(COOK, 1, 3);
+        x.hand(COOK, 2, 3);
+        x.rock(-9);
+        x.seen(4, 4);
+        x.feed(1);
+        x.watch();
+        x.watch();
+        x.from(0);
+        due("digest() as kept", x.digest(), kept);
+        due("undo() as kept", x.undo(), 1);
+        tiredAre("as kept", x, 6, 11);
+        due("undo() as kept", x.undo(), 0);
+        tiredAre("as kept", x, 10, 10);
+        due("fed as kept", x.of(0, 3), 1);
+        due("undo() as kept", x.undo(), 0);
+        due("fed as kept", x.of(0, 3), 0);
     }
 
     private static void promise30Status() {
