@@ -32,6 +32,7 @@ public final class SleepyHelm {
     private final Voyage draft;
     private final Voyage[] images;
     private final boolean[] imageKept;
+    private final Helm trial;
     private final Course course;
     private final PeaSearch peaSearch;
     private final Text text;
@@ -56,6 +57,7 @@ public final class SleepyHelm {
             images[i] = new Voyage(kinds);
         }
         imageKept = new boolean[IMAGE_LIMIT];
+        trial = new Helm(kinds);
         course = new Course(kinds);
         peaSearch = new PeaSearch(kinds);
         text = new Text();
@@ -189,14 +191,12 @@ public final class SleepyHelm {
         if (!isWithin(m, 0, WATCHES_AHEAD) || !isWithin(what, 0, 1)) {
             return refuseBad(BAD_PLACE);
         }
-        course.trial.take(voyage.helm);
-        course.run(m);
+        course.run(voyage.helm, m);
         return what == 0 ? course.places[m] : course.steerers[m];
     }
 
     public int strikes() {
-        course.trial.take(voyage.helm);
-        course.run(WATCHES_AHEAD);
+        course.run(voyage.helm, WATCHES_AHEAD);
         for (int m = 1; m <= WATCHES_AHEAD; m++) {
             if (voyage.isRock(course.places[m])) {
                 return m;
@@ -222,7 +222,6 @@ public final class SleepyHelm {
         if (!isHand(hand)) {
             return refuseBad(BAD);
         }
-        Helm trial = course.trial;
         trial.take(voyage.helm);
         int bits = 0;
         for (int m = 0; m < WATCHES_OF_CAN_NOT; m++) {
@@ -270,8 +269,7 @@ public final class SleepyHelm {
         if (!isHand(hand)) {
             return refuseBad(BAD);
         }
-        course.trial.take(voyage.helm);
-        course.run(WATCHES_SEEN);
+        course.run(voyage.helm, WATCHES_SEEN);
         return fittingNods(hand);
     }
 
@@ -281,9 +279,9 @@ public final class SleepyHelm {
         }
         int bits = 0;
         for (int kind = 0; kind < KIND_COUNT; kind++) {
-            course.trial.take(voyage.helm);
-            course.trial.kind[hand] = kind;
-            course.run(WATCHES_SEEN);
+            trial.take(voyage.helm);
+            trial.kind[hand] = kind;
+            course.run(trial, WATCHES_SEEN);
             if (fitsPulled(0, 0)) {
                 bits |= 1 << kind;
             }
@@ -295,8 +293,7 @@ public final class SleepyHelm {
         if (!isHand(hand)) {
             return refuseBad(BAD);
         }
-        course.trial.take(voyage.helm);
-        course.run(WATCHES_SEEN);
+        course.run(voyage.helm, WATCHES_SEEN);
         int ways = Integer.bitCount(fittingNods(hand));
         if (ways == 0) {
             return NONE;
@@ -318,8 +315,7 @@ public final class SleepyHelm {
         if (!isWithin(b, -PULL_LIMIT, PULL_LIMIT)) {
             return refuseBad(BAD);
         }
-        course.trial.take(voyage.helm);
-        course.run(WATCHES_SEEN);
+        course.run(voyage.helm, WATCHES_SEEN);
         int bits = 0;
         for (int k = 0; k < WATCHES_SEEN; k++) {
             if (fitsPulled(k, b)) {
@@ -333,8 +329,7 @@ public final class SleepyHelm {
         if (!isPlace(p) || !isNods(b) || !isWithin(what, 0, 1)) {
             return refuseBad(BAD);
         }
-        course.trial.take(voyage.helm);
-        course.run(WATCHES_AHEAD);
+        course.run(voyage.helm, WATCHES_AHEAD);
         int side = Integer.compare(course.places[0], p);
         for (int m = 0; m <= WATCHES_AHEAD; m++) {
             int sideThen = Integer.compare(course.places[m], p + b * m);
@@ -361,7 +356,6 @@ public final class SleepyHelm {
         if (!isWithin(seed, 0, SEED_LIMIT) || !isWithin(n, 0, WATCHES_AHEAD)) {
             return refuseBad(BAD_PLACE);
         }
-        Helm trial = course.trial;
         trial.take(voyage.helm);
         long x = seed;
         for (int m = 0; m < n; m++) {
@@ -829,20 +823,21 @@ public final class SleepyHelm {
 
     /** How she goes on if nobody is fed any more: a row for each number of watches behind which. */
     private static final class Course {
-        private final Helm trial;
+        private final Helm going;
         private final int[] places = new int[WATCHES_AHEAD + 1];
         private final int[] steerers = new int[WATCHES_AHEAD + 1];
 
         Course(Plain[] kinds) {
-            trial = new Helm(kinds);
+            going = new Helm(kinds);
         }
 
-        /** Fills the rows up to so many watches, from where the trial stands. */
-        void run(int watches) {
+        /** Fills the rows up to so many watches. */
+        void run(Helm from, int watches) {
+            going.take(from);
             for (int m = 0; m <= watches && m <= WATCHES_AHEAD; m++) {
-                places[m] = trial.place;
-                steerers[m] = trial.steerer(trial.fed);
-                trial.go(steerers[m]);
+                places[m] = going.place;
+                steerers[m] = going.steerer(going.fed);
+                going.go(steerers[m]);
             }
         }
 
