@@ -126,6 +126,7 @@ public final class TermsEdgeTest {
             due("not fed at first", x.of(h, 3), 0);
             due("the next one is not there", x.of(h + 1, 0), -10);
             x.feed(h);
+            due("fed: of(" + h + ", 3)", x.of(h, 3), 1);
         }
         due("hand 6", x.hand(0, 0, 0), FULL);
         due("count(0)", x.count(0), 6);

@@ -150,6 +150,14 @@ public final class TextEdgeTest {
         for (String word : none) {
             fault("ship;" + word + " 1 1 1;", 5);
         }
+        // a and z are the first and the last letter: a word goes on with them.
+        for (String letter : new String[] {"a", "z"}) {
+            fault("ship" + letter + ";", 0);
+            fault(letter + "ship;", 0);
+            fault("ship;rock" + letter + " 1;", 5);
+            fault("ship;" + letter + "lean 1 1 1;", 5);
+            fault("ship;rock 1" + letter + ";", 11);
+        }
         fault("ship;rock one;", 10);
         fault("ship;hand a 1 1;", 10);
         fault("ship;hand 1 a 1;", 12);
