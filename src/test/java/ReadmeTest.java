@@ -130,13 +130,13 @@ public final class ReadmeTest {
         Path place = Files.createTempDirectory("readme");
         Path source = place.resolve("Shown.java");
         Path compiled = place.resolve("Shown.class");
-        Files.writeString(source, program);
-        int exit = ToolProvider.getSystemJavaCompiler().run(null, null, null, "-cp",
-            System.getProperty("java.class.path"), "-d", place.toString(), source.toString());
-        if (exit != 0) {
-            throw new AssertionError("README: its examples do not compile");
-        }
         try (URLClassLoader loader = new URLClassLoader(new URL[] {place.toUri().toURL()})) {
+            Files.writeString(source, program);
+            int exit = ToolProvider.getSystemJavaCompiler().run(null, null, null, "-cp",
+                System.getProperty("java.class.path"), "-d", place.toString(), source.toString());
+            if (exit != 0) {
+                throw new AssertionError("README: its examples do not compile");
+            }
             Supplier<?> shown = (Supplier<?>) loader.loadClass("Shown").getDeclaredConstructor().newInstance();
             return ((List<?>) shown.get()).stream().map(row -> (Object[]) row).toList();
         } finally {
